@@ -639,15 +639,13 @@ public final class OwnedByGuests {
             }
         }
 
-        /** Copies all that quarters ask for; names and what was told are not. */
+        /** Copies what quarters ask for alone: a trial goes on from a scene, not from a text. */
         void copyFrom(Village other) {
             houses = other.houses;
             people = other.people;
             isLast = other.isLast;
             System.arraycopy(other.rules, 0, rules, 0, RULES);
-            System.arraycopy(other.store, 0, store, 0, MOST);
             System.arraycopy(other.worth, 0, worth, 0, MOST);
-            System.arraycopy(other.state, 0, state, 0, MOST);
             System.arraycopy(other.owner, 0, owner, 0, MOST);
             System.arraycopy(other.home, 0, home, 0, MOST);
             System.arraycopy(other.work, 0, work, 0, MOST);

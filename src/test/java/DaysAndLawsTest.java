@@ -114,6 +114,12 @@ public final class DaysAndLawsTest {
         rings("two with a lesser house", x, 1, 910);
         Due.plan(x, 0, "0ooo");
         rings("two beside a guest of one: y would rather be in f", x, 0, -1);
+        // in k is s, in h is y: x would rather be out
+        Due.village(x, "house h 0 0 100;house k 0 0 100;person x of h;person y of k;person s;tie x s 0;tie x y 0;");
+        Due.plan(x, 2, "1111");
+        rings("two of whom one would rather be out", x, 0, -1);
+        Due.plan(x, 2, "oooo");
+        rings("two of whom one is alone", x, 1, 109);
         Due.village(x, "house h 0 10 100;house k 0 10 100;house f 0 5 100;person s;person x of h;person y of k;"
             + "work s 1;");
         Due.plan(x, 0, "0ooo");
@@ -146,6 +152,9 @@ public final class DaysAndLawsTest {
         due("bound(2, 0)", x.bound(2, 0), OwnedByGuests.RANGE);
         due("bound(-1, 0)", x.bound(-1, 0), OwnedByGuests.RANGE);
         due("told(3) stays", x.told(3), 12);
+        x.pass(24);
+        // z stayed 23, and stays 24 to 27
+        due("bound(0, 0) of the greatest after", x.bound(0, 0), 28);
     }
 
     private static void law(OwnedByGuests x, boolean isLast, int after, int d, int gain, int lost) {
@@ -161,6 +170,8 @@ public final class DaysAndLawsTest {
         law(x, false, 2, 1, 37, 2);
         law(x, true, 4, 1, 37, 8);
         law(x, false, 28, 2, 10 + 9 + 9 + 9 + 9 + 9 + 8 + 8, 16);
+        x.pass(1);
+        law(x, false, 0, 1, 9 + 9 + 10 + 10, -2);
         Due.village(x, "house h 0 10 40;person x of h;");
         law(x, true, 5, 1, 16, -4);
         law(x, true, 5, 20, 10 * (4 + 5 + 6 + 7 + 8 + 9) + 20 * 10, -60);

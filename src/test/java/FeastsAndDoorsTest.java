@@ -35,7 +35,8 @@ public final class FeastsAndDoorsTest {
         }
         due("feast() of five", Due.feast(x, "23401"), 5);
         due("turned(0, 1)", x.turned(0, 1), 2);
-        String[] wrong = {"", "2340", "234011", "01233", "01235", "0123/", "0123o", "0123 "};
+        String[] wrong = {"", "2340", "234011", "01233", "01235", "0123/", "0123o", "0123 ",
+            "11234", "/1234", "51234", "o1234"};
         for (String row : wrong) {
             due("feast() of '" + row + "'", Due.feast(x, row), OwnedByGuests.NONE);
         }
@@ -96,6 +97,9 @@ public final class FeastsAndDoorsTest {
         Due.plan(x, 0, "0000");
         // 8 a quarter with z; 40 of a hundred of 20 are 8 too
         due("edge(1, 0) beyond all worth", x.edge(1, 0), OwnedByGuests.NONE);
+        x = Due.of("house h 0 7 40;mend 0;person z;person x of h;tie x z 17;");
+        Due.plan(x, 0, "0000");
+        due("edge(1, 0) of the greatest worth", x.edge(1, 0), 20);
     }
 
     private static void show() {
@@ -113,6 +117,12 @@ public final class FeastsAndDoorsTest {
             Due.plan(x, p, "0000");
         }
         due("show(0) of four", x.show(0), 4);
+        // four chairs are the most: e never finds one
+        Due.village(x, "house h 0 10 100;" + FIVE + "tie e a 20;");
+        for (int p = 0; p < 5; p++) {
+            Due.plan(x, p, "0000");
+        }
+        due("show(4) of five guests", x.show(4), 1);
         due("show(5)", x.show(5), OwnedByGuests.RANGE);
         due("show(-1)", x.show(-1), OwnedByGuests.RANGE);
     }
@@ -153,6 +163,7 @@ public final class FeastsAndDoorsTest {
         // y can't come while x is there; that x leaves is told behind the row that ends all
         due("rows behind tell nothing", Due.book(x, "0 1 0;0 1 0;0 0 5;"), -1);
         due("rows ahead do", Due.book(x, "0 1 0;0 0 5;0 1 0;"), -3);
+        due("one who goes to no house doesn't leave", Due.book(x, "0 1 0;0 0 1;"), -1);
         due("a book of nobody", Due.book(new OwnedByGuests(), "0 0 5;"), -1);
     }
 
@@ -188,6 +199,12 @@ public final class FeastsAndDoorsTest {
         }
         due("book of a hundred", Due.book(x, text.toString()), 100);
         due("book of as many rows as a tape has", Due.book(x, "0 0 0;".repeat(150)), -2);
+        due("a row of the last quarter", Due.book(x, "0 0 5;99 0 0;"), 2);
+        x = Due.of("house h 0 1 100;" + FIVE);
+        due("a book of the last person", Due.book(x, "0 4 0;1 3 0;1 4 5;"), 3);
+        x = Due.of("house h 0 1 100;person x of h;person y;after 0;");
+        x.lets(0, 0);
+        due("a row of the last quarter that can't be", Due.book(x, "0 0 0;99 1 0;"), -2);
         due("book with a wrong end", Due.book(x, "0 0 0;".repeat(149) + "0 0 0 "), -1000);
     }
 

@@ -18,6 +18,7 @@ public final class QuartersTest {
         work();
         wearMendTake();
         strolls();
+        seldomStrolls();
         workersDrawToo();
         slots();
         wrongNumbers();
@@ -129,6 +130,14 @@ public final class QuartersTest {
         x.pass(1);
         due("last: who stayed least", x.house(0, 0), 0);
         due("last: word(0) of who stayed least", x.word(0), 3);
+        // one stayed as many as count no more
+        x = Due.of(text);
+        Due.plan(x, 0, "0000");
+        Due.plan(x, 1, "o000");
+        x.pass(3);
+        due("stayed 2 of after 2", x.who(0, 1), 2);
+        due("who stayed 1 has it", x.house(0, 0), 1);
+        due("word(0) beside one that counts no more", x.word(0), 2);
         // two are alike, but not those who stayed longest
         x = Due.of("house h 0 10 100;person a;person b;person c;chairs 3;");
         Due.plan(x, 0, "o000");
@@ -294,6 +303,22 @@ public final class QuartersTest {
         x.pass(1);
         // s is 1103515245 times -1 and 12345 modulo 2^31: 1043980748, over 65536: 15929; then 4409
         due("the greatest seed", x.who(0, 0), 4409 % 3 == 2 ? -1 : 4409 % 3);
+    }
+
+    private static void seldomStrolls() {
+        OwnedByGuests x = Due.of("house h 0 10 100;person o of h;");
+        x.pass(6);
+        Due.village(x, "house h 0 10 100;person o of h;stroll 100;");
+        x.pass(1);
+        // with stroll 0 nothing was drawn: 16838 and 5758, 10113 and 17515
+        due("5758 of two", x.who(0, 0), 0);
+        x.pass(1);
+        due("17515 of two", x.who(0, 0), OwnedByGuests.NONE);
+        Due.village(x, "house h 0 10 100;person o of h;stroll 1;");
+        x.chance(132);
+        x.pass(1);
+        // by the seed 132: 27200, which is 0 of a hundred, and 12211
+        due("stroll 1", x.who(0, 0), OwnedByGuests.NONE);
     }
 
     private static void workersDrawToo() {

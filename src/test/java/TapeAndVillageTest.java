@@ -122,6 +122,16 @@ public final class TapeAndVillageTest {
         due("a later village forgets rules", Due.village(x, "last;"), 1);
         due("chairs again as untold", x.told(2), 2);
         due("after again as untold", x.told(3), 12);
+        Due.village(x, "house h 0 0 0;person x of h;person y;tie x y 3;work y 5;last;");
+        for (int i = 0; i < 2; i++) {
+            due("village() of the same people", Due.village(x, "house h 0 0 0;person x;person y;"), 3);
+        }
+        due("last again as untold", x.told(8), 0);
+        due("a later village forgets ties", x.tie(0, 1), 0);
+        due("a later village forgets work", x.told(61), 0);
+        due("a later village forgets whose a house is", x.told(40), OwnedByGuests.NONE);
+        due("a later village forgets what is whose", x.told(50), OwnedByGuests.NONE);
+        due("it is told anew", Due.village(x, "house h 0 0 0;person x;person y;tie x y 3;work y 5;last;wear 1;"), 7);
     }
 
     private static void goodTexts() {
@@ -134,6 +144,8 @@ public final class TapeAndVillageTest {
         good("house of 1 1 1;person of of of;", 2);
         good("house last 1 1 1;person last of last;last;", 3);
         good("house x 1 1 1;person x;", 2);
+        good("person a;person aa;person b;person bb;person ab;", 5);
+        good("person z;person zz;person zzzzzzzz;person yzzzzzzz;person y;", 5);
         good("person x;person y;tie x y 1;tie y x 1;", 4);
         good("person a;person b;person c;person d;person e;", 5);
         good("house a 1 1 1;house b 1 1 1;house c 1 1 1;house d 1 1 1;house e 1 1 1;", 5);
@@ -149,6 +161,9 @@ public final class TapeAndVillageTest {
         bad("3;", 1, 0);
         bad("guest;", 1, 0);
         bad("houses a 1 2 3;", 1, 0);
+        bad("mouse a 1 2 3;", 1, 0);
+        bad("hous a 1 2 3;", 1, 0);
+        bad("past;", 1, 0);
         bad("house abcdefghi 1 2 3;", 1, 6);
         bad("house a 1 2 1000;", 1, 12);
         bad("house a 1 2 0000;", 1, 12);

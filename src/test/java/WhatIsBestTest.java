@@ -31,6 +31,7 @@ public final class WhatIsBestTest {
         due("count(1) stays", x.count(1), 1);
         due("house(0, 1) stays", x.house(0, 1), 1);
         due("who(0, 3) stays", x.who(0, 3), 11);
+        due("best(0, 4) beside it", x.best(0, 4), 0 + 0 + 9 + 9);
         due("sum(2)", x.sum(2), -1000000);
         due("sum(-1)", x.sum(-1), -1000000);
     }
@@ -44,6 +45,11 @@ public final class WhatIsBestTest {
         due("no chance was drawn by trials", x.who(0, 0), 0);
         x.pass(1);
         due("no chance was drawn by trials", x.who(0, 0), OwnedByGuests.NONE);
+        x = Due.of("chairs 4;house h 0 10 100;person a;person b;last;");
+        Due.plan(x, 0, "0000");
+        Due.plan(x, 1, "0000");
+        due("sum(0) by last", x.sum(0), 0);
+        due("sum(1) by last", x.sum(1), 37);
     }
 
     private static void bestPlans() {
@@ -139,6 +145,10 @@ public final class WhatIsBestTest {
         due("rest(0, 1)", x.rest(0, 1), 0);
         due("rest(1, 0)", x.rest(1, 0), OwnedByGuests.NONE);
         due("rest(1, 1)", x.rest(1, 1), 0);
+        Due.plan(x, 1, "oooo");
+        x.pass(1);
+        due("rest(1, 0) with y out of it", x.rest(1, 0), 0);
+        due("rest(1, 1) with y out of it", x.rest(1, 1), OwnedByGuests.NONE);
     }
 
     private static void settles() {
