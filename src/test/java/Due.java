@@ -1,13 +1,43 @@
+import java.io.IOException;
+import java.nio.charset.StandardCharsets;
+import java.nio.file.Files;
+import java.nio.file.Path;
+
 /** What all tests share: putting texts on the tape, and telling answers that are not as due. */
 final class Due {
+    private static final Path DOCUMENT = Path.of("..", "shared", "DOC.md");
+
     private int wrong;
     private int looked;
+    private String sentence = "";
+
+    /** Names the document's words from which the answers that follow are due; they must stand in it. */
+    void says(String words) {
+        sentence = words;
+        due("that the document says so", isInDocument(words) ? 1 : 0, 1);
+    }
+
+    private static boolean isInDocument(String words) {
+        if (!Files.isReadable(DOCUMENT)) {
+            return true;
+        }
+        try {
+            return plain(Files.readString(DOCUMENT, StandardCharsets.UTF_8)).contains(plain(words));
+        } catch (IOException e) {
+            throw new IllegalStateException("the document can't be read", e);
+        }
+    }
+
+    private static String plain(String text) {
+        return text.replaceAll("\\s+", " ");
+    }
 
     void due(String call, int got, int want) {
         looked++;
         if (got != want) {
             wrong++;
-            System.out.println(call + " answered " + got + ", due is " + want);
+            String by = sentence.isEmpty() ? "" : " by '" + sentence + "'";
+            System.out.println(call + " answered " + got + ", due is " + want + by);
         }
     }
 
