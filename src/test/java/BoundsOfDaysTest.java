@@ -28,6 +28,7 @@ public final class BoundsOfDaysTest {
         boundIsAtMost();
         boundAsked();
         lawsByHand();
+        lawsFromNow();
         stateLost();
         lawAsked();
         bestLawByHand();
@@ -195,6 +196,14 @@ public final class BoundsOfDaysTest {
         // by after 0 only whose it is has a house
         rings("after 0;house a 0 10 100;house b 0 10 100;person x of a;person y of b;", 0, NONE);
         rings("after 0;house a 0 0 100;house b 0 0 100;person x of a;person y of b;", 1, 10);
+        // out is another wish too: beside y, whom he doesn't like, he'd rather be there
+        rings("chairs 4;house a 0 0 0;house b 0 0 0;house c 0 0 0;person x of a;person y of b;person s;", 1, 109);
+        OwnedByGuests beside = Due.of("chairs 4;house a 0 0 0;house b 0 0 0;person x of a;person y of b;person s;"
+            + "tie x s 9;tie x y 9;");
+        due("rings(0) without s", beside.rings(0), 1);
+        Due.plan(beside, 2, "1111");
+        due("rings(0) beside s", beside.rings(0), 0);
+        due("rings(1) beside s", beside.rings(1), NONE);
         DUE.says("(the others: by their PLANS)");
         String text = "house a 0 10 100;house b 0 10 100;house free 0 5 100;person s;person x of a;person y of b;";
         OwnedByGuests x = Due.of(text);
@@ -431,6 +440,24 @@ public final class BoundsOfDaysTest {
                         due(law + "1)", x.law(k == 1, after, d, 1), 90 + 40 - other.house(0, 2) - other.house(1, 2));
                     }
                 }
+            }
+        }
+    }
+
+    /** What was had and lost ahead of the trial is none of it. */
+    private static void lawsFromNow() {
+        DUE.says("in d days of a TRIAL by PLANS all GAIN together, and how much STATE all HOUSES lost together");
+        for (int passed : new int[] {1, 3, 6}) {
+            for (int k = 0; k < 2; k++) {
+                OwnedByGuests x = under(lawText(k == 1, 3));
+                x.pass(passed);
+                int gain = x.law(k == 1, 3, 2, 0);
+                int lost = x.law(k == 1, 3, 2, 1);
+                int gainBefore = allGain(x);
+                int stateBefore = x.house(0, 2) + x.house(1, 2);
+                x.pass(8);
+                due("law(" + (k == 1) + ", 3, 2, 0) behind " + passed, gain, allGain(x) - gainBefore);
+                due("law(" + (k == 1) + ", 3, 2, 1) behind " + passed, lost, stateBefore - x.house(0, 2) - x.house(1, 2));
             }
         }
     }

@@ -328,6 +328,13 @@ public final class BoundsOfFeastsTest {
         // each chair more is worth one more
         OwnedByGuests x = withChairs(1, "after 0;tie o b 11;tie o c 11;tie o d 11;tie o e 11;");
         due("show(0) of four", x.show(0), 4);
+        // a fifth chair would be worth more to e, but four are the most
+        x = Due.of("house h 0 9 100;person a;person b;person c;person d;person e;tie e a 20;tie d a 20;");
+        for (int p = 0; p < 5; p++) {
+            Due.plan(x, p, "0000");
+        }
+        due("show(4) of five guests", x.show(4), 1);
+        due("show(3) of five guests", x.show(3), 4);
         x = withChairs(4, "after 0;tie o b 9;");
         due("show(0) of one chair, which is one too many", x.show(0), 1);
     }
@@ -376,7 +383,8 @@ public final class BoundsOfFeastsTest {
         DUE.says("FULL (-1000): it is no such text.");
         String[] wrong = {"0", "0 0", "0 0 0", ";", "0;", "0 0;", "0 0 0;;", ";0 0 0;", "0 0 0 0;", "0 0 0;0", "0 0 0;0 0 0",
             "x", "0 0 x;", "0 x 0;", "x 0 0;", "0 0 o;", "0 0 0;last;", "0 0 0.", "0,0,0;", "-1 0 0;", "0 -1 0;", "0 0 -1;",
-            "0000 0 0;", "0 0000 0;", "0 0 0000;", "000;", "0 00;", "0\t0 0;", "0 0 0;\u0000", "\u00ff", "0 0 0:"};
+            "0000 0 0;", "0 0000 0;", "0 0 0000;", "000;", "0 00;", "0\t0 0;", "0 0 0;\u0000", "\u00ff", "0 0 0:",
+            "0 5;", "100;", "0 0 6", "5;", "0 5 5;", "100 0;"};
         for (String text : wrong) {
             book(five(), text, NO_BOOK);
             TWINS.refusedAndEmptied("book() of '" + text + "'", x -> Due.book(x, text), NO_BOOK);
@@ -498,6 +506,7 @@ public final class BoundsOfFeastsTest {
         x.lets(0, 0);
         book(x, "0 1 0;0 2 0;", -1);
         book(x, "0 1 0;0 0 3;", -1);
+        book(x, "0 1 0;0 0 1;", -1);
         book(x, "0 1 0;0 1 5;0 0 5;", -1);
         book(x, "0 0 5;0 1 0;0 0 5;", -3);
         book(x, "1 1 0;0 0 5;", -1);

@@ -383,6 +383,19 @@ public final class BoundsOfTextsTest {
         bad("house a 1 1 1;person x ofa;", 1, 23);
         bad("house a 1 1 1;person x of a b;", 1, 28);
         bad("abcdefghi;", 1, 0);
+        // a clause's word is that word from its first letter to its last
+        String[] clauses = {"house a 1 1 1;", "person x;", "tie x y 1;", "work x 1;", "chairs 1;", "after 1;", "wear 1;",
+            "mend 1;", "take 1;", "stroll 1;", "last;"};
+        for (String clause : clauses) {
+            String ahead = "person x;person y;".repeat(clause.startsWith("tie") || clause.startsWith("work") ? 1 : 0);
+            int length = clause.indexOf(clause.startsWith("last") ? ";" : " ");
+            good(ahead + clause, ahead.isEmpty() ? 1 : 3);
+            bad(ahead + "z" + clause.substring(1), 1, ahead.length());
+            bad(ahead + clause.substring(1), 1, ahead.length());
+            bad(ahead + clause.substring(0, length - 1) + "z" + clause.substring(length), 1, ahead.length());
+            bad(ahead + clause.substring(0, length - 1) + clause.substring(length), 1, ahead.length());
+            bad(ahead + clause.substring(0, length) + "s" + clause.substring(length), 1, ahead.length());
+        }
         // a name's last letter tells too
         good("person abcdefgh;person abcdefgi;person bbcdefgh;", 3);
         bad("person abcdefgh;person abcdefgh;", 3, 23);
@@ -505,6 +518,10 @@ public final class BoundsOfTextsTest {
         bad("person a;person b;person a of a;", 3, 25);
         good("house a 1 1 1;person a of a;house b 1 1 1;person b of b;", 4);
         good("person of;person person;person house;person last;person tie;", 5);
+        good("person a;person aa;person aaa;person aaaa;person aaaaaaaa;", 5);
+        good("person b;person bb;person ab;person ba;person bbb;", 5);
+        good("person z;person zz;person az;person za;person bz;", 5);
+        good("person zz;person aza;person azb;person bah;person bag;", 5);
         good("house of 1 1 1;person of of of;", 2);
     }
 
@@ -708,6 +725,8 @@ public final class BoundsOfTextsTest {
         bad("house aa 1 1 1;person x of a;", 5, 27);
         bad("house a 1 1 1;person x of aa;", 5, 26);
         bad("person x;work of 5;", 5, 14);
+        // though the tie that stands ahead of hers in the row of all was told
+        bad(PEOPLE + "tie a e 1;tie b z 1;", 5, 61);
     }
 
     private static void villageWithAFault() {
@@ -757,6 +776,7 @@ public final class BoundsOfTextsTest {
                 due("house(" + h + ", 2)", x.house(h, 2), x.told(30 + h));
             }
         }
+        villagesInTurn();
         // by the seed 1 are drawn 16838, 5758, 10113, 17515: the second village goes on with the third
         String text = "house h 0 0 0;person o of h;stroll 100;";
         OwnedByGuests x = Due.of(text);
@@ -765,6 +785,35 @@ public final class BoundsOfTextsTest {
         Due.village(x, text);
         x.pass(1);
         due("17515 of two", x.who(0, 0), NONE);
+    }
+
+    /** Of villages that one object is told one by one nothing is left in the next. */
+    private static void villagesInTurn() {
+        String full = HOUSES + "person a of a;person b of b;person c of c;person d of d;person e of e;tie a b 1;tie e d 20;"
+            + "tie d e 3;work a 1;work e 15;chairs 4;after 28;wear 20;mend 20;take 9;stroll 100;last;";
+        OwnedByGuests x = new OwnedByGuests();
+        for (int i = 0; i < 3; i++) {
+            due("village() of all", Due.village(x, full), 22);
+            due("told(3)", x.told(3), 28);
+            due("tie(4, 3)", x.tie(4, 3), 10);
+            due("village() of people", Due.village(x, PEOPLE + "house f 2 3 4;"), 6);
+            due("told(0)", x.told(0), 1);
+            due("told(40)", x.told(40), NONE);
+            due("tie(4, 3)", x.tie(4, 3), 0);
+            due("tie(0, 1)", x.tie(0, 1), 0);
+            due("tie(3, 4)", x.tie(3, 4), 0);
+            due("told(8)", x.told(8), 0);
+            for (int k = 0; k < RULES.length; k++) {
+                due(RULES[k] + " untold", x.told(2 + k), UNTOLD[k]);
+            }
+            for (int p = 0; p < 5; p++) {
+                due("told(" + (50 + p) + ")", x.told(50 + p), NONE);
+                due("told(" + (60 + p) + ")", x.told(60 + p), 0);
+            }
+            due("village() of none", Due.village(x, ""), 0);
+            due("told(0)", x.told(0), 0);
+            due("told(1)", x.told(1), 0);
+        }
     }
 
     private static void faultAsked() {
