@@ -1168,6 +1168,8 @@ public final class OwnedByGuests {
     private static final class Trial {
         /** Rows of five people with six places each. */
         static final int MOST_ROWS = 7776;
+        /** A gain of one quarter is -40 .. 69: with this more it is above 0 and has a byte to itself. */
+        static final int GAIN_LIFT = 128;
 
         final Village village = new Village();
         final Ways ways = new Ways();
@@ -1178,8 +1180,8 @@ public final class OwnedByGuests {
         private final Scene[] day = new Scene[QUARTERS + 1];
         final int[] wish = new int[MOST];
         private final Choices choices = new Choices();
-        /** Of each row of wishes the gain of each. */
-        private final int[] gains = new int[MOST_ROWS * MOST];
+        /** Of each row of wishes the gain of each, a byte a person, to keep the object small. */
+        private final long[] gains = new long[MOST_ROWS];
         /** How many rows lie between two choices of a person. */
         private final int[] strides = new int[MOST];
         int bestSum;
@@ -1340,9 +1342,17 @@ public final class OwnedByGuests {
                 wishRow();
                 scene.copyFrom(origin);
                 scene.goOn(village, ways.lets, wish);
-                System.arraycopy(scene.latest, 0, gains, row * MOST, MOST);
+                gains[row] = packedGains();
                 changed = choices.goOn();
             }
+        }
+
+        private long packedGains() {
+            long packed = 0;
+            for (int p = village.people - 1; p >= 0; p--) {
+                packed = packed << 8 | (scene.latest[p] + GAIN_LIFT) & 255;
+            }
+            return packed;
         }
 
         private boolean isRest(int row) {
@@ -1358,7 +1368,10 @@ public final class OwnedByGuests {
         }
 
         private int gainAt(int row, int person) {
-            return row >= 0 && row < MOST_ROWS ? gains[row * MOST + person] : GAIN_RANGE;
+            if (row < 0 || row >= MOST_ROWS) {
+                return GAIN_RANGE;
+            }
+            return (int) (gains[row] >> 8 * person & 255) - GAIN_LIFT;
         }
 
         // -- rings and guards

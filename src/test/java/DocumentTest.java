@@ -1,4 +1,5 @@
 import java.io.IOException;
+import java.lang.reflect.Method;
 import java.nio.charset.StandardCharsets;
 import java.nio.file.Files;
 import java.nio.file.Path;
@@ -8,7 +9,7 @@ import java.util.regex.Matcher;
 import java.util.regex.Pattern;
 import java.util.stream.Stream;
 
-/** That some test names a sentence of each promise and of each of the terms. */
+/** That some test names a sentence of each promise and of each of the terms, and README.md each call. */
 public final class DocumentTest {
     private static final Due DUE = new Due();
     private static final Pattern SAYS = Pattern.compile("\\.says\\(((?:\\s*\"(?:[^\"\\\\]|\\\\.)*\"\\s*\\+?)+)\\)");
@@ -34,7 +35,19 @@ public final class DocumentTest {
                 isNamed("terms " + i, parts[i], quotes);
             }
         }
+        readme();
         DUE.close();
+    }
+
+    private static void readme() throws IOException {
+        String page = Files.readString(Path.of("README.md"), StandardCharsets.UTF_8);
+        for (Method method : OwnedByGuests.class.getMethods()) {
+            if (method.getDeclaringClass() == OwnedByGuests.class) {
+                String name = method.getName();
+                DUE.due("that README.md names " + name, page.contains("`" + name + "`") ? 1 : 0, 1);
+            }
+        }
+        DUE.due("that README.md says how to run tests", page.contains("`.ci/run`") ? 1 : 0, 1);
     }
 
     private static void isNamed(String what, String body, List<String> quotes) {

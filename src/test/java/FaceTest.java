@@ -1,13 +1,16 @@
 import com.sun.management.ThreadMXBean;
 import java.lang.management.ManagementFactory;
+import java.lang.reflect.Array;
 import java.lang.reflect.Constructor;
 import java.lang.reflect.Field;
 import java.lang.reflect.Method;
 import java.lang.reflect.Modifier;
+import java.util.Collections;
+import java.util.IdentityHashMap;
 import java.util.Set;
 import java.util.TreeSet;
 
-/** The public face, calls with wild arguments in many states, and that calls make no objects. */
+/** The public face, calls with wild arguments in many states, that calls make no objects and an object is small. */
 public final class FaceTest {
     private static final Due DUE = new Due();
     private static final String FACE = "feed(int,int,int,int,int) end(int) village() fault(int) told(int) tie(int,int) "
@@ -27,6 +30,7 @@ public final class FaceTest {
         privateNames();
         wildCalls();
         noObjects();
+        smallObject();
         DUE.close();
     }
 
@@ -132,6 +136,41 @@ public final class FaceTest {
         }
         long made = threads.getCurrentThreadAllocatedBytes() - before;
         DUE.due("bytes made by ten rounds of calls, " + made + ", are few", made < 20000 ? 1 : 0, 1);
+    }
+
+    /** A room of 600,000 objects and 7.3 million fields and elements has place for some hundreds of villages. */
+    private static void smallObject() throws Exception {
+        int[] counts = new int[2];
+        countAll(Due.of(FULL_VILLAGE), counts, Collections.newSetFromMap(new IdentityHashMap<>()));
+        DUE.due("objects and arrays, " + counts[0] + ", are few", counts[0] < 200 ? 1 : 0, 1);
+        DUE.due("fields and elements, " + counts[1] + ", are few", counts[1] < 12000 ? 1 : 0, 1);
+        DUE.due("they were found", counts[0] > 50 && counts[1] > 900 ? 1 : 0, 1);
+    }
+
+    /** Adds all objects and arrays that are reached, and their fields and elements. */
+    private static void countAll(Object object, int[] counts, Set<Object> seen) throws Exception {
+        if (object == null || !seen.add(object)) {
+            return;
+        }
+        counts[0]++;
+        if (object.getClass().isArray()) {
+            counts[1] += Array.getLength(object);
+            if (object instanceof Object[] all) {
+                for (Object one : all) {
+                    countAll(one, counts, seen);
+                }
+            }
+            return;
+        }
+        for (Field field : object.getClass().getDeclaredFields()) {
+            if (!Modifier.isStatic(field.getModifiers())) {
+                counts[1]++;
+                field.setAccessible(true);
+                if (!field.getType().isPrimitive()) {
+                    countAll(field.get(object), counts, seen);
+                }
+            }
+        }
     }
 
     private static void everyCall(OwnedByGuests x) {

@@ -10,6 +10,8 @@ public final class WhatIsBestTest {
         rests();
         restsOfWorkers();
         restsFromNow();
+        restsByTheGreatestGains();
+        restsByTheLeastGains();
         settles();
         neverSettles();
         DUE.close();
@@ -133,6 +135,58 @@ public final class WhatIsBestTest {
         due("rests() without work", x.rests(), 2);
         due("rest(0, 1) needn't", x.rest(0, 1), 0);
         due("rest(1, 0)", x.rest(1, 0), OwnedByGuests.NONE);
+    }
+
+    private static String fiveWithTies(int tie, int tieOfLast) {
+        StringBuilder text = new StringBuilder("chairs 4;take 9;house h 99 20 100;");
+        String names = "abcde";
+        for (int p = 0; p < 5; p++) {
+            text.append("person ").append(names.charAt(p)).append(p == 0 ? " of h;" : ";");
+        }
+        for (int p = 0; p < 5; p++) {
+            for (int q = 0; q < 5; q++) {
+                if (p != q) {
+                    text.append("tie ").append(names.charAt(p)).append(' ').append(names.charAt(q));
+                    text.append(' ').append(p < 4 ? tie : tieOfLast).append(';');
+                }
+            }
+        }
+        return text.toString();
+    }
+
+    /** All like all: who is out would come, so that all are in; who has it has 20, 9 and four times 10. */
+    private static void restsByTheGreatestGains() {
+        OwnedByGuests x = Due.of(fiveWithTies(20, 20));
+        due("rests() of all who like all", x.rests(), 1);
+        for (int p = 0; p < 5; p++) {
+            due("rest(0, " + p + ")", x.rest(0, p), 0);
+            Due.plan(x, p, "0000");
+        }
+        x.pass(1);
+        due("who(1, 2): the most there is", x.who(1, 2), 69);
+        due("who(4, 2)", x.who(4, 2), 40);
+    }
+
+    /**
+     * None likes any: who hasn't the house flees it, and of guests who come together the least number has it; the
+     * one whose it is can't have it beside a guest.
+     */
+    private static void restsByTheLeastGains() {
+        OwnedByGuests x = Due.of(fiveWithTies(0, 0));
+        due("rests() of all who like none", x.rests(), 1);
+        for (int p = 0; p < 5; p++) {
+            due("rest(0, " + p + ")", x.rest(0, p), p == 1 ? 0 : OwnedByGuests.NONE);
+            Due.plan(x, p, "0000");
+        }
+        x.pass(1);
+        due("who(1, 2)", x.who(1, 2), 29 - 40);
+        due("who(4, 2): the least there is", x.who(4, 2), -40);
+        // he alone flees, and all others are better off wherever they are together
+        x = Due.of(fiveWithTies(20, 0));
+        due("rests() of one who likes none", x.rests(), 1);
+        for (int p = 0; p < 5; p++) {
+            due("rest(0, " + p + ")", x.rest(0, p), p < 4 ? 0 : OwnedByGuests.NONE);
+        }
     }
 
     /** Who stayed longer has it: rests depend on how things are. */
